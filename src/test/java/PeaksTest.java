@@ -171,6 +171,11 @@ public final class PeaksTest {
         w.complete();
         DUE.is("the forms of the sides", "ac>c", () -> w.ruleText(3));
         DUE.is("without rules", -1, () -> new Rewriterope().complete());
+        Rewriterope v = Due.withRules("ab>d", "bc>cc", "cc>a");
+        DUE.is("the first one does not meet", 0, v::unmet);
+        DUE.is("another one is asked for", "ccc:ac|ca", () -> v.peak(2));
+        v.complete();
+        DUE.is("it is the first one all the same", "dc>aa", () -> v.ruleText(3));
     }
 
     private static void completeToTheEnd() {

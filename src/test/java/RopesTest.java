@@ -148,6 +148,10 @@ public final class RopesTest {
         DUE.is("cut all", 0, () -> x.cut(0, 0, 5));
         DUE.is("cut", "", () -> x.text(0));
         DUE.noPlace("a rope without letters", () -> x.cut(0, 0, 1));
+        Rewriterope y = with("abc", "dd");
+        y.told(0, 1);
+        DUE.is("cut after other calls", 2, () -> y.cut(0, 1, 2));
+        DUE.is("cut", "ac", () -> y.text(0));
     }
 
     private static void turn() {

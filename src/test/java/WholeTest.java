@@ -67,9 +67,17 @@ public final class WholeTest {
         sound("falling, meeting", "babab", "abba", "ba>ab");
         sound("falling, not ends", Due.times("ba", 16), "b", "ba>ab");
         sound("joined too long", Due.times("ba", 16), Due.times("a", 32), "ba>ab", "aa>");
+        sound("the ropes are other ones", "bbb", "aab", "bb>", "ba>ab");
+        sound("joined they are shorter", "aab", "baac", "bb>", "aa>", "cc>");
+        sound("joined, not ends", Due.times("ba", 8), Due.times("ba", 8), "ba>ab");
+        sound("joined, 32", Due.times("dc", 8), Due.times("cd", 8), "dc>", "cd>");
+        sound("joined, 33", Due.times("dc", 8), Due.times("cd", 8) + "d", "dc>", "cd>");
+        sound("the next one is none", "ba", "", "ba>ab");
         sound("not meeting", "abc", "ab", "ab>d", "bc>b");
         sound("growing", Due.times("a", 32), "a", "a>aaaaaa", "aa>bbbbbb");
         sound("not falling", "aaab", "ba", "a>b", "b>a");
+        // All peaks meet and the ways lead to other ends: that is sound, as not all rules fall.
+        sound("not falling, other ends", "dcbaccd", "", "ac>", "a>b", "dcb>cdd", "b>a");
         sound("8 rules", "abcdabcd", "dcba", "d>c", "c>b", "b>a", "ab>a", "aa>a", "da>", "a>", "b>");
     }
 
