@@ -533,28 +533,25 @@ public final class Rewriterope {
     }
 
     private boolean isSameJoined(Text text, Text next) {
-        work.become(text);
         second.become(text);
         third.become(next);
         book.toForm(second);
         book.toForm(third);
         boolean areEnds = book.isDone(second) && book.isDone(third);
-        if (text.length + next.length > MOST_LETTERS
-                || second.length + third.length > MOST_LETTERS) {
-            return true;
-        }
-        work.addPart(next, 0, next.length);
         second.addPart(third, 0, third.length);
-        book.toForm(work);
         book.toForm(second);
+        work.become(text);
+        work.addPart(next, 0, next.length);
+        book.toForm(work);
         areEnds = areEnds && book.isDone(work) && book.isDone(second);
-        return !areEnds || work.isSameAs(second);
+        boolean areShort = work.length <= MOST_LETTERS && second.length <= MOST_LETTERS;
+        return !areEnds || !areShort || work.isSameAs(second);
     }
 
     /** A row of letters that is changed in its place. */
     private static final class Text {
-        // One STEP may lead beyond a ROPE's length before it is told that it does not fit.
-        static final int ROOM = MOST_LETTERS + MOST_SIDE;
+        // isSound() joins two ROPES; that is room, too, for what spot() shows of one STEP too long.
+        static final int ROOM = MOST_LETTERS + MOST_LETTERS;
 
         final byte[] letters = new byte[ROOM];
         int length = 0;

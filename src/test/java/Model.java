@@ -469,14 +469,12 @@ final class Model {
     }
 
     private boolean isJoinedSame(String text, String next) {
-        String joined = text + next;
-        String parts = formOf(text) + formOf(next);
-        if (joined.length() > 32 || parts.length() > 32) {
-            return true;
-        }
+        String joined = formOf(text + next);
+        String parts = formOf(formOf(text) + formOf(next));
         boolean areEnds = isEndText(formOf(text)) && isEndText(formOf(next))
-                && isEndText(formOf(joined)) && isEndText(formOf(parts));
-        return !areEnds || formOf(joined).equals(formOf(parts));
+                && isEndText(joined) && isEndText(parts);
+        boolean areShort = joined.length() <= 32 && parts.length() <= 32;
+        return !areEnds || !areShort || joined.equals(parts);
     }
 
     boolean isSound() {

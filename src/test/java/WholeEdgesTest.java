@@ -123,6 +123,13 @@ public final class WholeEdgesTest {
         isSound("both joined 39", Scene.of(dc16, cd15.substring(0, 6) + "a").rules(pairs));
         isSound("both joined 63, forms of one", Scene.of(dc16, cd15 + "a").rules(pairs));
         isSound("both joined 64, no rules", Scene.of(ABCD8, A32));
+        String[] six = {"aaaaaa>", "b>"};
+        isSound("both joined 38, the first step to 32",
+                Scene.of(A32.substring(13), A32.substring(13)).rules(six));
+        isSound("both joined 39, no step to 32",
+                Scene.of(A32.substring(13), A32.substring(12)).rules(six));
+        isSound("both joined 38, only a step to 37 ahead",
+                Scene.of("b" + A32.substring(14), A32.substring(13)).rules(six));
         isSound("their forms joined have a spot", Scene.of("bd", "db", "d", "cb").rules(pairs));
         isSound("the last one and the first one", Scene.of("cb", "", "", "bd").rules(pairs));
         isSound("each with none", Scene.of("cdc", "", "dcd", "").rules(pairs));
